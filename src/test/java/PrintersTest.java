@@ -9,6 +9,7 @@ public final class PrintersTest {
         pay();
         setTakesLigaturesFirst();
         setTakesTheMostWorn();
+        theGreatestWearIsFoundToo();
         setRefuses();
         printWears();
         printRefuses();
@@ -205,6 +206,20 @@ public final class PrintersTest {
         Checks.due("wear 7 in the case", 0, () -> f.sorts(0, 0, 7));
         Checks.due("wear 3 in the case", 1, () -> f.sorts(0, 0, 3));
         Checks.due("wear 0 in the case", 3, () -> f.sorts(0, 0, 0));
+    }
+
+    private static void theGreatestWearIsFoundToo() {
+        TypeFoundry f = caseOf("aa", 0, 0, 0);
+        f.set(0, Checks.word("a"));
+        f.print(0, 450);
+        f.distribute(0);
+        Checks.due("set takes wear 9", 1, () -> f.set(0, Checks.word("a")));
+        Checks.due("wear 9 in the form", 9, () -> f.printer(0, 4));
+        Checks.due("wear 9 is put back", 1, () -> f.distribute(0));
+        Checks.due("give back wear 9", 9, () -> f.giveBack(0, 0, 1));
+        Checks.due("rent wear 9", 9, () -> f.rent(0, 0, 1));
+        f.giveBack(0, 0, 1);
+        Checks.due("melt wear 9", 1, () -> f.melt(9));
     }
 
     private static void setRefuses() {
