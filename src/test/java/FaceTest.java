@@ -32,6 +32,7 @@ public final class FaceTest {
         "long digest()"};
 
     public static void main(String[] args) {
+        Checks.holds(0, "public final class TypeFoundry {");
         Class<?> type = TypeFoundry.class;
         Checks.due("public and final", Modifier.PUBLIC | Modifier.FINAL, type::getModifiers);
         Constructor<?>[] constructors = type.getDeclaredConstructors();

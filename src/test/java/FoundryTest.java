@@ -1,194 +1,286 @@
-/** Promises 1 to 4: a new object, cast, melt, buy. */
+/** Promises 2 to 4: cast, melt, buy. */
 public final class FoundryTest {
+    private static final String FIRST_NAMED = "If several exceptions apply, the one that is named first is thrown.";
+
     public static void main(String[] args) {
-        newObject();
+        castMakesNewSorts();
         castCosts();
-        castEdges();
-        castRefuses();
+        castReturnsTheMetal();
+        castSign();
+        castMany();
+        castMetal();
+        castStock();
+        castFirstNamed();
+        meltSomeWearOrMore();
+        meltTheStockAlone();
         meltGives();
-        meltRefuses();
-        buyAdds();
-        buyRefuses();
-        Checks.end("FoundryTest");
+        meltReturnsHowMany();
+        meltWear();
+        meltMetal();
+        meltFirstNamed();
+        buyReturnsTheMetal();
+        buyMetal();
+        buyTooMuch();
+        buyFirstNamed();
+        Checks.end("FoundryTest", 2, 3, 4);
     }
 
-    private static void newObject() {
-        TypeFoundry f = new TypeFoundry();
-        int[] counts = {0, 500, 0, 0, 0, 0, 0, 0};
-        for (int what = 0; what < counts.length; what++) {
-            int asked = what;
-            Checks.due("new: count(" + what + ")", counts[what], () -> f.count(asked));
-        }
-        for (int sign = 0; sign < 29; sign++) {
-            for (int wear = 0; wear < 10; wear++) {
-                int s = sign;
-                int w = wear;
-                Checks.due("new: sorts(-1, " + s + ", " + w + ")", 0, () -> f.sorts(-1, s, w));
-            }
-        }
-        Checks.due("new: no printer", Checks.BAD_INDEX, () -> f.printer(0, 0));
-        TypeFoundry other = new TypeFoundry();
-        f.cast(0, 1);
-        Checks.due("objects share nothing", 500, () -> other.count(1));
-        Checks.due("objects share no stock", 0, () -> other.sorts(-1, 0, 0));
+    private static void castMakesNewSorts() {
+        Checks.holds(2, "Casts new sorts");
+        TypeFoundry f = Foundries.stockOfThreeWears(0);
+        f.cast(0, 5);
+        Checks.due("5 more, new", 8, () -> f.sorts(-1, 0, 0));
+        Checks.due("worn ones stay", 2, () -> f.sorts(-1, 0, 3));
+        Checks.due("no other sign", 0, () -> f.sorts(-1, 1, 0));
+        Checks.due("in no case", 0, () -> f.printer(0, 2));
+        Checks.due("stock", 14, () -> f.count(3));
+        Checks.due("cast in all", 14, () -> f.count(5));
     }
 
     private static void castCosts() {
-        TypeFoundry f = new TypeFoundry();
-        Checks.due("cast a", 498, () -> f.cast(0, 1));
-        Checks.due("cast z", 488, () -> f.cast(25, 5));
-        Checks.due("cast fi", 485, () -> f.cast(26, 1));
-        Checks.due("cast fl", 479, () -> f.cast(27, 2));
-        Checks.due("cast ff", 470, () -> f.cast(28, 3));
-        Checks.due("cast a again", 462, () -> f.cast(0, 4));
-        Checks.due("new sorts are new", 5, () -> f.sorts(-1, 0, 0));
-        Checks.due("new sorts of ff", 3, () -> f.sorts(-1, 28, 0));
-        Checks.due("sorts in stock", 16, () -> f.count(3));
-        Checks.due("cast in all", 16, () -> f.count(5));
+        Checks.holds(2, "each costs 2 of metal, of a ligature 3");
+        for (int sign = 0; sign < 29; sign++) {
+            int s = sign;
+            Checks.due("cast(" + s + ", 1)", sign <= 25 ? 498 : 497, () -> new TypeFoundry().cast(s, 1));
+            Checks.due("cast(" + s + ", 7)", sign <= 25 ? 486 : 479, () -> new TypeFoundry().cast(s, 7));
+        }
     }
 
-    private static void castEdges() {
+    private static void castReturnsTheMetal() {
+        Checks.holds(2, "Returns the metal then.");
         TypeFoundry f = new TypeFoundry();
-        Checks.due("200 at once", 100, () -> f.cast(3, 200));
-        Checks.due("all the metal", 0, () -> f.cast(4, 50));
-        Checks.refused("no metal", Checks.BAD_STATE, f, () -> f.cast(4, 1));
-        TypeFoundry g = new TypeFoundry();
-        Checks.refused("167 ff need 501", Checks.BAD_STATE, g, () -> g.cast(28, 167));
-        Checks.due("166 ff need 498", 2, () -> g.cast(28, 166));
-        Checks.refused("one ff more", Checks.BAD_STATE, g, () -> g.cast(28, 1));
-        Checks.due("one a more", 0, () -> g.cast(0, 1));
-
-        TypeFoundry full = stockOf999();
-        Checks.refused("1000 of a sign", Checks.BAD_STATE, full, () -> full.cast(25, 1));
-        Checks.due("another sign still", 6500, () -> full.cast(24, 1));
-        full.come(0);
-        full.rent(0, 25, 1);
-        Checks.due("999 of a sign again", 6498, () -> full.cast(25, 1));
-        Checks.due("999 are not all of a sign that came back", 0, () -> full.giveBack(0, 25, 1));
-        Checks.due("1000 in the stock, given back", 1000, () -> full.sorts(-1, 25, 0));
-        Checks.refused("not cast on top", Checks.BAD_STATE, full, () -> full.cast(25, 1));
+        Checks.due("cast", 480, () -> f.cast(3, 10));
+        Checks.due("the metal then", 480, () -> f.count(1));
+        Checks.due("cast on", 450, () -> f.cast(28, 10));
+        Checks.due("the metal then", 450, () -> f.count(1));
     }
 
-    private static TypeFoundry stockOf999() {
-        TypeFoundry f = new TypeFoundry();
-        for (int i = 0; i < 4; i++) {
-            f.buy(2000);
+    private static void castSign() {
+        Checks.holds(2, "sign is not 0 to 28");
+        for (int sign : Foundries.NO_SIGNS) {
+            Checks.refused("cast(" + sign + ", 1)", Checks.BAD_INDEX, Foundries::busy, f -> f.cast(sign, 1));
         }
-        for (int i = 0; i < 4; i++) {
-            f.cast(25, 200);
+        Checks.due("the least", 498, () -> new TypeFoundry().cast(0, 1));
+        Checks.due("the greatest", 497, () -> new TypeFoundry().cast(28, 1));
+    }
+
+    private static void castMany() {
+        Checks.holds(2, "many is not 1 to 200");
+        for (int many : Foundries.NO_MANY) {
+            Checks.refused("cast(0, " + many + ")", Checks.BAD_ARGUMENT, () -> Foundries.withMetal(9999), f -> f.cast(0, many));
+            Checks.refused("cast(28, " + many + ")", Checks.BAD_ARGUMENT, () -> Foundries.withMetal(9999), f -> f.cast(28, many));
         }
-        Checks.refused("1000 at the last cast", Checks.BAD_STATE, f, () -> f.cast(25, 200));
-        Checks.due("999 of a sign", 6502, () -> f.cast(25, 199));
+        Checks.due("the least", 498, () -> new TypeFoundry().cast(0, 1));
+        Checks.due("the most", 100, () -> new TypeFoundry().cast(0, 200));
+        Checks.due("the most of a ligature", 1400, () -> Foundries.withMetal(2000).cast(28, 200));
+    }
+
+    private static void castMetal() {
+        Checks.holds(2, "there is not so much metal");
+        int[][] rows = {{0, 0, 1}, {1, 0, 1}, {0, 26, 1}, {2, 26, 1}, {399, 0, 200}, {599, 28, 200}, {99, 25, 50}, {299, 27, 100}};
+        for (int[] row : rows) {
+            Checks.refused("metal " + row[0] + ", cast(" + row[1] + ", " + row[2] + ")", Checks.BAD_STATE,
+                    () -> Foundries.withMetal(row[0]), f -> f.cast(row[1], row[2]));
+            int price = row[2] * (row[1] < 26 ? 2 : 3);
+            Checks.due("metal " + price + ", all of it", 0, () -> Foundries.withMetal(price).cast(row[1], row[2]));
+        }
+    }
+
+    private static void castStock() {
+        Checks.holds(2, "there would be more than 999 sorts of the sign in the stock");
+        int[][] rows = {{999, 1}, {998, 2}, {800, 200}, {980, 200}, {999, 200}};
+        for (int[] row : rows) {
+            for (int sign : new int[] {0, 28}) {
+                Checks.refused(row[0] + " there, " + row[1] + " more of " + sign, Checks.BAD_STATE,
+                        () -> rich(Foundries.withStock(sign, row[0])), f -> f.cast(sign, row[1]));
+            }
+        }
+        Checks.due("just 999", 999, () -> castOn(Foundries.withStock(0, 800), 0, 199));
+        Checks.due("just 999, by one", 999, () -> castOn(Foundries.withStock(0, 998), 0, 1));
+        Checks.due("another sign than the 999", 1199, () -> castOn(Foundries.withStock(0, 999), 1, 200));
+        TypeFoundry rented = rich(Foundries.withStock(0, 999));
+        rented.come(0);
+        rented.rent(0, 0, 5);
+        Checks.due("those in a case are not in the stock", 999, () -> castOn(rented, 0, 5));
+        Checks.due("999 of the sign again", Checks.BAD_STATE, () -> rented.cast(0, 1));
+        rented.giveBack(0, 0, 5);
+        Checks.due("999 is said of cast, not of giveBack", 1004, () -> rented.count(3));
+        Checks.due("more than 999 already", Checks.BAD_STATE, () -> rented.cast(0, 1));
+        Checks.refused("worn ones count as well", Checks.BAD_STATE, FoundryTest::oneWornOf999, f -> f.cast(0, 1));
+        Checks.due("the worn one makes 999", 999, () -> oneWornOf999().count(3));
+    }
+
+    private static TypeFoundry rich(TypeFoundry f) {
+        Foundries.buy(f, 3000);
         return f;
     }
 
-    private static void castRefuses() {
-        TypeFoundry f = new TypeFoundry();
-        Checks.refused("sign -1", Checks.BAD_INDEX, f, () -> f.cast(-1, 1));
-        Checks.refused("sign 29", Checks.BAD_INDEX, f, () -> f.cast(29, 1));
-        Checks.refused("sign before many", Checks.BAD_INDEX, f, () -> f.cast(29, 0));
-        Checks.refused("sign of all", Checks.BAD_INDEX, f, () -> f.cast(Integer.MIN_VALUE, Integer.MAX_VALUE));
-        Checks.refused("many 0", Checks.BAD_ARGUMENT, f, () -> f.cast(0, 0));
-        Checks.refused("many -1", Checks.BAD_ARGUMENT, f, () -> f.cast(0, -1));
-        Checks.refused("many before metal", Checks.BAD_ARGUMENT, f, () -> f.cast(28, 201));
-        Checks.refused("many of all", Checks.BAD_ARGUMENT, f, () -> f.cast(0, Integer.MAX_VALUE));
+    private static int castOn(TypeFoundry f, int sign, int many) {
+        f.cast(sign, many);
+        return f.count(3);
     }
 
-    /** A stock of 3 a, wear 2; 2 fi, wear 2; 4 b, wear 5; 1 z, wear 0. */
-    private static TypeFoundry wornStock() {
-        TypeFoundry f = new TypeFoundry();
-        f.cast(0, 3);
-        f.cast(26, 2);
-        f.cast(1, 4);
-        f.come(0);
-        f.rent(0, 0, 3);
-        f.rent(0, 26, 2);
-        f.set(0, Checks.word("aaa"));
-        f.set(0, Checks.word("fifi"));
-        f.print(0, 100);
-        f.distribute(0);
-        f.giveBack(0, 0, 3);
-        f.giveBack(0, 26, 2);
-        f.rent(0, 1, 4);
-        f.set(0, Checks.word("bbbb"));
-        f.print(0, 250);
-        f.distribute(0);
-        f.giveBack(0, 1, 4);
-        f.cast(25, 1);
+    private static TypeFoundry oneWornOf999() {
+        TypeFoundry f = Foundries.caseOf("");
+        Foundries.buy(f, 4000);
+        Foundries.stock(f, 0, 0, 1, 9);
+        for (int i = 0; i < 4; i++) {
+            f.cast(0, 200);
+        }
+        f.cast(0, 198);
         return f;
+    }
+
+    private static void castFirstNamed() {
+        Checks.holds(2, FIRST_NAMED);
+        for (int sign : Foundries.NO_SIGNS) {
+            for (int many : Foundries.NO_MANY) {
+                Checks.refused("sign, many and metal", Checks.BAD_INDEX, () -> Foundries.withMetal(0), f -> f.cast(sign, many));
+            }
+            Checks.refused("sign and metal", Checks.BAD_INDEX, () -> Foundries.withMetal(0), f -> f.cast(sign, 200));
+        }
+        for (int many : Foundries.NO_MANY) {
+            Checks.refused("many and metal", Checks.BAD_ARGUMENT, () -> Foundries.withMetal(0), f -> f.cast(28, many));
+            Checks.refused("many and stock", Checks.BAD_ARGUMENT, () -> rich(Foundries.withStock(0, 999)), f -> f.cast(0, many));
+        }
+    }
+
+    /** One a of each wear, 0 to 9, and one fi of each wear in the stock. */
+    private static TypeFoundry everyWear() {
+        TypeFoundry f = Foundries.caseOf("");
+        for (int wear = 9; wear >= 0; wear--) {
+            Foundries.put(f, 0, 0, 1, wear);
+            Foundries.put(f, 0, 26, 1, wear);
+            f.giveBack(0, 0, 1);
+            f.giveBack(0, 26, 1);
+        }
+        return f;
+    }
+
+    private static void meltSomeWearOrMore() {
+        Checks.holds(3, "Melts all sorts of the stock with some wear or more");
+        for (int least = 1; least <= 9; least++) {
+            int wear = least;
+            TypeFoundry f = everyWear();
+            f.melt(wear);
+            for (int w = 0; w <= 9; w++) {
+                int asked = w;
+                Checks.due("melt(" + wear + "), a of wear " + w, w < wear ? 1 : 0, () -> f.sorts(-1, 0, asked));
+                Checks.due("melt(" + wear + "), fi of wear " + w, w < wear ? 1 : 0, () -> f.sorts(-1, 26, asked));
+            }
+        }
+    }
+
+    private static void meltTheStockAlone() {
+        Checks.holds(3, "Melts all sorts of the stock");
+        TypeFoundry f = Foundries.caseOf("");
+        Foundries.put(f, 0, 0, 2, 9);
+        f.set(0, 1);
+        Checks.due("a case and a form are not melted", 0, () -> f.melt(1));
+        Checks.due("the case", 1, () -> f.sorts(0, 0, 9));
+        Checks.due("the form", 1, () -> f.printer(0, 3));
+        f.giveBack(0, 0, 1);
+        Checks.due("given back it is", 1, () -> f.melt(1));
+        Checks.due("the form still", 1, () -> f.printer(0, 3));
     }
 
     private static void meltGives() {
-        TypeFoundry f = wornStock();
-        Checks.due("metal before", 478, () -> f.count(1));
-        Checks.due("melt(6): none", 0, () -> f.melt(6));
-        Checks.due("melt(5): the b", 4, () -> f.melt(5));
-        Checks.due("4 of metal more", 482, () -> f.count(1));
-        Checks.due("melt(3): none", 0, () -> f.melt(3));
-        Checks.due("melt(1): the a and the fi", 5, () -> f.melt(1));
-        Checks.due("3 + 4 of metal more", 489, () -> f.count(1));
-        Checks.due("the z is left", 1, () -> f.count(3));
-        Checks.due("melted in all", 9, () -> f.count(7));
-        Checks.due("cast in all stays", 10, () -> f.count(5));
-        Checks.due("a are gone", 0, () -> f.sorts(-1, 0, 2));
-        TypeFoundry g = wornStock();
-        Checks.due("melt(2): some wear or more", 9, () -> g.melt(2));
-        Checks.due("metal of all", 489, () -> g.count(1));
-        TypeFoundry h = wornStock();
-        h.rent(0, 1, 4);
-        Checks.due("a case is not melted", 5, () -> h.melt(1));
-        Checks.due("a case stays", 4, () -> h.sorts(0, 1, 5));
+        Checks.holds(3, "each gives 1 of metal, of a ligature 2");
+        for (int sign = 0; sign < 29; sign++) {
+            int s = sign;
+            TypeFoundry f = Foundries.caseOf("");
+            Foundries.stock(f, 0, sign, 3, 1);
+            int before = f.count(1);
+            f.melt(1);
+            Checks.due("3 of sign " + s, before + (s <= 25 ? 3 : 6), () -> f.count(1));
+        }
     }
 
-    private static void meltRefuses() {
-        TypeFoundry f = wornStock();
-        Checks.refused("wear 0", Checks.BAD_ARGUMENT, f, () -> f.melt(0));
-        Checks.refused("wear 10", Checks.BAD_ARGUMENT, f, () -> f.melt(10));
-        Checks.refused("wear -1", Checks.BAD_ARGUMENT, f, () -> f.melt(-1));
-        TypeFoundry full = wornStock();
-        for (int i = 0; i < 4; i++) {
-            full.buy(2000);
+    private static void meltReturnsHowMany() {
+        Checks.holds(3, "Returns how many are melted.");
+        Checks.due("none there", 0, () -> new TypeFoundry().melt(1));
+        Checks.due("new ones alone", 0, () -> Foundries.withStock(0, 50).melt(1));
+        int[] due = {0, 18, 16, 14, 12, 10, 8, 6, 4, 2};
+        for (int least = 1; least <= 9; least++) {
+            int wear = least;
+            TypeFoundry f = everyWear();
+            Checks.due("melt(" + wear + ")", due[wear], () -> f.melt(wear));
+            Checks.due("in all", due[wear], () -> f.count(7));
+            Checks.due("left", 20 - due[wear], () -> f.count(3));
+            Checks.due("once more", 0, () -> f.melt(wear));
+            Checks.due("in all, still", due[wear], () -> f.count(7));
         }
-        full.buy(1511);
-        Checks.due("metal 9989", 9989, () -> full.count(1));
-        Checks.refused("11 of metal do not fit", Checks.BAD_STATE, full, () -> full.melt(1));
-        Checks.refused("wear before metal", Checks.BAD_ARGUMENT, full, () -> full.melt(0));
-        Checks.due("4 fit", 4, () -> full.melt(5));
-        Checks.due("then 9993", 9993, () -> full.count(1));
-        Checks.refused("7 do not fit", Checks.BAD_STATE, full, () -> full.melt(1));
-        TypeFoundry edge = wornStock();
-        for (int i = 0; i < 4; i++) {
-            edge.buy(2000);
-        }
-        edge.buy(1510);
-        Checks.due("just 9999", 9, () -> edge.melt(1));
-        Checks.due("metal 9999", 9999, () -> edge.count(1));
-        Checks.due("none at full metal", 0, () -> edge.melt(1));
     }
 
-    private static void buyAdds() {
+    private static void meltWear() {
+        Checks.holds(3, "wear is not 1 to 9");
+        for (int wear : new int[] {0, -1, 10, Foundries.LEAST, Foundries.MOST}) {
+            Checks.refused("melt(" + wear + ")", Checks.BAD_ARGUMENT, FoundryTest::everyWear, f -> f.melt(wear));
+        }
+        Checks.due("the least", 18, () -> everyWear().melt(1));
+        Checks.due("the greatest", 2, () -> everyWear().melt(9));
+    }
+
+    /** As everyWear, with this metal. */
+    private static TypeFoundry everyWear(int metal) {
+        TypeFoundry f = everyWear();
+        Foundries.buy(f, metal - f.count(1));
+        return f;
+    }
+
+    private static void meltMetal() {
+        Checks.holds(3, "there would be more than 9999 of metal");
+        for (int least = 1; least <= 9; least++) {
+            int wear = least;
+            int gain = 3 * (10 - wear);
+            Checks.refused("melt(" + wear + ") makes 10000", Checks.BAD_STATE, () -> everyWear(10000 - gain), f -> f.melt(wear));
+            TypeFoundry edge = everyWear(9999 - gain);
+            Checks.due("melt(" + wear + ") makes 9999", 2 * (10 - wear), () -> edge.melt(wear));
+            Checks.due("9999", 9999, () -> edge.count(1));
+            Checks.due("none to melt then", 0, () -> edge.melt(wear));
+        }
+        Checks.refused("metal is full", Checks.BAD_STATE, () -> everyWear(9999), f -> f.melt(9));
+        Checks.due("metal is full, none to melt", 0, () -> Foundries.withMetal(9999).melt(1));
+    }
+
+    private static void meltFirstNamed() {
+        Checks.holds(3, FIRST_NAMED);
+        for (int wear : new int[] {0, -1, Foundries.LEAST}) {
+            Checks.refused("wear and metal", Checks.BAD_ARGUMENT, () -> everyWear(9999), f -> f.melt(wear));
+        }
+    }
+
+    private static void buyReturnsTheMetal() {
+        Checks.holds(4, "Returns the metal then.");
         TypeFoundry f = new TypeFoundry();
-        Checks.due("buy 1", 501, () -> f.buy(1));
-        Checks.due("buy 2000", 2501, () -> f.buy(2000));
-        Checks.due("metal", 2501, () -> f.count(1));
-        Checks.due("coins stay", 0, () -> f.count(2));
-        f.buy(2000);
-        f.buy(2000);
-        f.buy(2000);
-        Checks.refused("10000", Checks.BAD_STATE, f, () -> f.buy(1499));
-        Checks.due("9999", 9999, () -> f.buy(1498));
-        Checks.refused("one more", Checks.BAD_STATE, f, () -> f.buy(1));
+        Checks.due("buy 30", 530, () -> f.buy(30));
+        Checks.due("buy 7", 537, () -> f.buy(7));
+        Checks.due("the metal then", 537, () -> f.count(1));
+        Checks.due("no coins for it", 0, () -> f.count(2));
     }
 
-    private static void buyRefuses() {
-        TypeFoundry f = new TypeFoundry();
-        Checks.refused("buy 0", Checks.BAD_ARGUMENT, f, () -> f.buy(0));
-        Checks.refused("buy -1", Checks.BAD_ARGUMENT, f, () -> f.buy(-1));
-        Checks.refused("buy 2001", Checks.BAD_ARGUMENT, f, () -> f.buy(2001));
-        for (int i = 0; i < 4; i++) {
-            f.buy(2000);
+    private static void buyMetal() {
+        Checks.holds(4, "metal is not 1 to 2000");
+        for (int metal : new int[] {0, -1, 2001, Foundries.LEAST, Foundries.MOST}) {
+            Checks.refused("buy(" + metal + ")", Checks.BAD_ARGUMENT, Foundries::busy, f -> f.buy(metal));
         }
-        Checks.refused("argument before state", Checks.BAD_ARGUMENT, f, () -> f.buy(2001));
-        Checks.refused("argument of all", Checks.BAD_ARGUMENT, f, () -> f.buy(Integer.MAX_VALUE));
+        Checks.due("the least", 501, () -> new TypeFoundry().buy(1));
+        Checks.due("the most", 2500, () -> new TypeFoundry().buy(2000));
+    }
+
+    private static void buyTooMuch() {
+        Checks.holds(4, "there would be more than 9999");
+        for (int metal : new int[] {1, 2, 1000, 2000}) {
+            Checks.refused("buy(" + metal + ") makes 10000", Checks.BAD_STATE, () -> Foundries.withMetal(10000 - metal), f -> f.buy(metal));
+            Checks.due("buy(" + metal + ") makes 9999", 9999, () -> Foundries.withMetal(9999 - metal).buy(metal));
+        }
+        Checks.refused("metal is full", Checks.BAD_STATE, () -> Foundries.withMetal(9999), f -> f.buy(2000));
+    }
+
+    private static void buyFirstNamed() {
+        Checks.holds(4, FIRST_NAMED);
+        for (int metal : new int[] {2001, Foundries.MOST}) {
+            Checks.refused("metal and too much", Checks.BAD_ARGUMENT, () -> Foundries.withMetal(9999), f -> f.buy(metal));
+        }
     }
 }
