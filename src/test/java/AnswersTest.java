@@ -1,4 +1,5 @@
 import java.math.BigInteger;
+import java.util.function.Supplier;
 
 /** Promises 13 to 15 and 22: sorts, printer, count, digest. */
 public final class AnswersTest {
@@ -262,51 +263,56 @@ public final class AnswersTest {
 
     private static void digestInItsOrder() {
         Checks.holds(22, "what count() tells, in its order; for the stock, and then each printer: for each sign and each wear what sorts() tells (sign by sign); for each printer what printer() tells, in its order.");
-        TypeFoundry none = Foundries.withMetal(37);
-        Checks.due("no printer", digestOf(none).longValue(), none::digest);
-        TypeFoundry busy = Foundries.busy();
-        Checks.due("two printers", digestOf(busy).longValue(), busy::digest);
+        Supplier<TypeFoundry> none = () -> Foundries.withMetal(37);
+        Checks.due("no printer", digestOf(none).longValue(), () -> none.get().digest());
+        Checks.due("two printers", digestOf(Foundries::busy).longValue(), () -> Foundries.busy().digest());
+        Checks.due("six printers", digestOf(AnswersTest::busySix).longValue(), () -> busySix().digest());
+    }
+
+    private static TypeFoundry busySix() {
         TypeFoundry six = Foundries.busy();
         for (int i = 2; i < 6; i++) {
             six.come(i);
         }
         six.rent(5, 0, 2);
-        Checks.due("six printers", digestOf(six).longValue(), six::digest);
+        return six;
     }
 
     private static void digestWrapsAround() {
         Checks.holds(22, "d becomes d * 31 + x, which wraps around as a 64-bit integer");
-        TypeFoundry f = Foundries.busy();
-        BigInteger whole = digestOf(f);
+        BigInteger whole = digestOf(Foundries::busy);
         Checks.due("far beyond 64 bits", true, () -> whole.bitLength() > 1000);
-        Checks.due("the lowest 64 bits of it", whole.longValue(), f::digest);
+        Checks.due("the lowest 64 bits of it", whole.longValue(), () -> Foundries.busy().digest());
     }
 
     private static void digestReturnsD() {
         Checks.holds(22, "Returns d.");
-        TypeFoundry f = Foundries.busy();
-        long d = digestOf(f).longValue();
+        long d = digestOf(Foundries::busy).longValue();
         Checks.told("changes nothing", d, Foundries::busy, TypeFoundry::digest);
+        TypeFoundry f = Foundries.busy();
         Checks.due("once", d, f::digest);
         Checks.due("twice", d, f::digest);
         f.buy(1);
         Checks.due("of another state", false, () -> f.digest() == d);
     }
 
-    /** The digest before it is cut to 64 bits. */
-    private static BigInteger digestOf(TypeFoundry f) {
+    /** The digest before it is cut to 64 bits. Each store is asked of its own foundry, to stay within 512 calls. */
+    private static BigInteger digestOf(Supplier<TypeFoundry> maker) {
+        TypeFoundry f = maker.get();
+        int printers = f.count(4);
         BigInteger d = BigInteger.valueOf(751);
         for (int what = 0; what <= 7; what++) {
             d = next(d, f.count(what));
         }
-        for (int printer = -1; printer < f.count(4); printer++) {
+        for (int printer = -1; printer < printers; printer++) {
+            TypeFoundry asked = maker.get();
             for (int sign = 0; sign <= 28; sign++) {
                 for (int wear = 0; wear <= 9; wear++) {
-                    d = next(d, f.sorts(printer, sign, wear));
+                    d = next(d, asked.sorts(printer, sign, wear));
                 }
             }
         }
-        for (int printer = 0; printer < f.count(4); printer++) {
+        for (int printer = 0; printer < printers; printer++) {
             for (int what = 0; what <= 6; what++) {
                 d = next(d, f.printer(printer, what));
             }
